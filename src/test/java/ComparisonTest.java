@@ -44,7 +44,7 @@ public final class ComparisonTest {
 
     public static void main(String[] args) throws Exception {
         int first = args.length > 0 ? Integer.parseInt(args[0]) : 1;
-        int last = args.length > 1 ? Integer.parseInt(args[1]) : 500;
+        int last = args.length > 1 ? Integer.parseInt(args[1]) : 3000;
         for (int seed = first; seed <= last; seed++) {
             if (!new ComparisonTest(seed).agree()) {
                 System.out.println("seed " + seed + " does not agree");
@@ -58,6 +58,12 @@ public final class ComparisonTest {
         boolean small = dice.chance(80);
         if (dice.chance(95) && !tell(TownTexts.sound(dice, small))) {
             return false;
+        }
+        // now and then near the end of all YEARS
+        for (int i = dice.chance(5) ? 3 : 0; i > 0; i--) {
+            if (!compare("run", dice.from(0, 1000000), dice.from(29, 30))) {
+                return false;
+            }
         }
         for (int i = dice.from(20, 300); i > 0; i--) {
             String[] call = CALLS[dice.from(0, CALLS.length - 1)].split(" ");

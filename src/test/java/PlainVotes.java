@@ -1,7 +1,9 @@
 import java.util.ArrayList;
 import java.util.HashMap;
+import java.util.HashSet;
 import java.util.List;
 import java.util.Map;
+import java.util.Set;
 import java.util.TreeMap;
 import java.util.regex.Matcher;
 import java.util.regex.Pattern;
@@ -9,6 +11,7 @@ import java.util.regex.Pattern;
 /** The document once more, word by word and with no thought of speed, to compare answers with. */
 public final class PlainVotes {
     private static final class Fault extends RuntimeException {
+        private static final long serialVersionUID = 1L;
         final int kind;
         final int place;
 
@@ -915,7 +918,6 @@ public final class PlainVotes {
         return sum;
     }
 
-    /** What is asked of a COLUMN goes over to those beside it until nothing is asked any more. */
     public int rise(int side, int column, int n) {
         if (noColumn(side, column) || n < 0 || n > 12) {
             return -2;
@@ -923,6 +925,39 @@ public final class PlainVotes {
         if (n > w.high) {
             return -1;
         }
+        return Math.pow(w.high + 1, w.wide) < 1300 ? layUntil(side, column, n) : asked(side, column, n);
+    }
+
+    /** All heights that can be reached by one STONE more, and by one more, until it is high enough. */
+    private int layUntil(int side, int column, int n) {
+        List<Integer> start = new ArrayList<>();
+        for (List<Stone> stones : w.sides.get(side)) {
+            start.add(stones.size());
+        }
+        Set<List<Integer>> reached = Set.of(start);
+        for (int laid = 0; laid < 100; laid++) {
+            Set<List<Integer>> next = new HashSet<>();
+            for (List<Integer> heights : reached) {
+                if (heights.get(column) >= n) {
+                    return laid;
+                }
+                for (int c = 0; c < w.wide; c++) {
+                    List<Integer> higher = new ArrayList<>(heights);
+                    higher.set(c, heights.get(c) + 1);
+                    boolean left = c == 0 || higher.get(c) - higher.get(c - 1) <= w.bond;
+                    boolean right = c + 1 == w.wide || higher.get(c) - higher.get(c + 1) <= w.bond;
+                    if (higher.get(c) <= w.high && left && right) {
+                        next.add(higher);
+                    }
+                }
+            }
+            reached = next;
+        }
+        return -99;
+    }
+
+    /** What is asked of a COLUMN goes over to those beside it until nothing is asked any more. */
+    private int asked(int side, int column, int n) {
         int[] due = new int[w.wide];
         for (int c = 0; c < w.wide; c++) {
             due[c] = w.column(side, c).size();

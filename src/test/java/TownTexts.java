@@ -53,9 +53,28 @@ final class TownTexts {
         return text + " ;";
     }
 
+    /** The text with one of its numbers changed. */
+    private static String number(Dice dice, String text) {
+        int at = dice.from(0, text.length() - 1);
+        while (at > 0 && !Character.isDigit(text.charAt(at))) {
+            at--;
+        }
+        String in = dice.one("0", "1", "9", "10", "12", "13", "60", "61", "99", "100", "101", "8");
+        return text.substring(0, at) + in + text.substring(Math.min(text.length(), at + 1));
+    }
+
     /** A sound text with one or two places changed; by luck it may still be sound. */
     static String spoilt(Dice dice) {
         String text = sound(dice, dice.chance(70));
+        if (dice.chance(30)) {
+            return number(dice, text);
+        }
+        if (dice.chance(15)) {
+            int end = text.indexOf(';') + 1;
+            String line = dice.chance(50) ? "sort weight 1 bears 0 many 0 ;"
+                    : "voter east low light carries 1 far 0;";
+            return text.substring(0, end) + line.repeat(dice.from(1, 9)) + text.substring(end);
+        }
         for (int i = dice.from(1, 2); i > 0; i--) {
             int at = dice.from(0, text.length());
             int until = Math.min(text.length(), at + dice.from(0, 6));
