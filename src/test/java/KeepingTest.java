@@ -86,6 +86,22 @@ public final class KeepingTest {
             write 2 0 4294967296 = 0
             judge 2 = 0
             """);
+        Script.run("promise 47: the last COLUMN and SORT", """
+            town wall wide 8 high 1 bond 1; sort weight 1 bears 0 many 1; sort weight 1 bears 0 many 1; sort weight 1 bears 0 many 1; sort weight 1 bears 0 many 1; sort weight 1 bears 0 many 2; = 6
+            row 0 1 3 = 0
+            write 0 0 74 = 0
+            write 0 1 1074 = 0
+            write 0 2 1063 = 0
+            judge 0 = 3
+            then 0 = 1
+            write 0 2 1073 = 0
+            judge 0 = 2
+            then 0 = 2
+            write 0 0 80 = 0
+            judge 0 = 0
+            write 0 0 75 = 0
+            judge 0 = 0
+            """);
     }
 
     private static void counting() {

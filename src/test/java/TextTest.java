@@ -218,6 +218,9 @@ public final class TextTest {
         fault("rule more;" + WALL, 1, 0);
         fault("walls wide 3 high 4 bond 2;", 1, 0);
         fault("wallwide 3 high 4 bond 2;", 1, 0);
+        fault("wallz wide 3 high 4 bond 2;", 1, 0);
+        fault("wall wide 3z high 4 bond 2;", 1, 11);
+        fault("walla wide 3 high 4 bond 2;", 1, 0);
         fault("Wall wide 3 high 4 bond 2;", 1, 0);
         fault("wall\twide 3 high 4 bond 2;", 1, 4);
         fault("wall wide 3 high 4 bond 2", 1, 25);

@@ -320,5 +320,24 @@ public final class TurningTest {
             # 1 against 3
             tear 0 = 3
             """);
+        WallVotes x = Script.run("promise 33, a whole SIDE", """
+            town wall wide 8 high 12 bond 12; sort weight 1 bears 99 many 60; sort weight 1 bears 99 many 60; = 3
+            lay 0 0 0 = 1
+            """);
+        for (int i = 0; i < 96; i++) {
+            Script.due("promise 33", "lay", x.lay(1, i % 8, i % 2), i / 8 + 1);
+        }
+        Script.go(x, "promise 33, a whole SIDE", """
+            tear 0 = 96
+            rule 1 = 0
+            tear 0 = 96
+            rule 2 = 1
+            tear 0 = 96
+            lay 0 0 0 = 2
+            lay 0 0 0 = 3
+            tear 0 = 80
+            rule 1 = 2
+            tear 0 = 94
+            """);
     }
 }
