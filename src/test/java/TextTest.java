@@ -73,7 +73,22 @@ public final class TextTest {
             count 0 = 1
             count 8 = 0
             """);
-        // bytes of the twenty that a later end() leaves are the TOWN's, those behind it are not
+        // what lay behind the end is no part of the TAPE any more
+        Script.run("promise 3", """
+            tape wall wide 12
+            end 11 = 11
+            town = -4
+            fault 0 = 1
+            fault 1 = 11
+            tape wall     wide
+            end 5 = 5
+            town = -4
+            fault 1 = 5
+            tape wall wide 3 high 4 bond 2;
+            end 25 = 25
+            town = -4
+            fault 1 = 25
+            """);
         Script.run("promise 3", """
             tape wall wide 1 high 2 bond 3;
             end 10 = 10
@@ -194,6 +209,11 @@ public final class TextTest {
         sound(WALL + "rule higher;", 2);
         sound(WALL + "sort weight 1 bears 1 many 1;".repeat(5), 6);
         sound(WALL + "voter east low light carries 1 far 0;".repeat(10), 11);
+        // a TAPE that is full
+        sound(WALL + " ".repeat(1600 - WALL.length()), 1);
+        sound(" ".repeat(1600), 0);
+        sound(" ".repeat(1600 - WALL.length()) + WALL, 1);
+        sound("wall wide 3 high 4 bond " + "0".repeat(1574) + "2;", 1);
     }
 
     private static void fault(String text, int kind, int place) {
@@ -268,6 +288,11 @@ public final class TextTest {
         behind("x storm 101;", 1, 0);
         behind("sort weight 99999999999999999999 bears x", 2, 12);
         behind("sort weight 4294967297 bears 1 many 1;", 2, 12);
+        // a TAPE that is full
+        fault("wall wide " + "3".repeat(1590), 2, 10);
+        fault("wall " + "w".repeat(1595), 1, 5);
+        fault("wall" + " ".repeat(1596), 1, 1600);
+        fault(";".repeat(1600), 1, 0);
     }
 
     private static void bounds() {
