@@ -685,11 +685,11 @@ public final class WallVotes {
         int side = code / 1000;
         int column = code % 1000 / 10;
         int sort = code % 10;
-        if (!hasColumn(side, column) || !hasSort(sort) || thought.wall.pile[sort] <= 0) {
+        if (!hasColumn(side, column) || !hasSort(sort)) {
             return false;
         }
         int place = placeOf(side, column);
-        if (!thought.wall.fits(place, thought.town.weight[sort])) {
+        if (!thought.wall.canTake(place, sort)) {
             return false;
         }
         thought.wall.put(place, sort, NONE, thought.year);
@@ -1048,6 +1048,11 @@ public final class WallVotes {
                 return false;
             }
             return column + 1 >= town.wide || heights[place + 1] >= least;
+        }
+
+        /** Whether there is a STONE of a SORT on the PILE that fits. */
+        boolean canTake(int place, int sort) {
+            return pile[sort] > 0 && fits(place, town.weight[sort]);
         }
 
         /** Lays a STONE that fits: how high its COLUMN is then. */
@@ -1469,7 +1474,7 @@ public final class WallVotes {
             for (int column = 0; column < thought.town.wide; column++) {
                 int place = placeOf(side, column);
                 for (int sort = 0; sort < thought.town.sorts; sort++) {
-                    if (!canLay(thought, place, sort)) {
+                    if (!thought.wall.canTake(place, sort)) {
                         continue;
                     }
                     thought.wall.put(place, sort, NONE, thought.year);
@@ -1505,18 +1510,13 @@ public final class WallVotes {
                 for (int sort = 0; sort < thought.town.sorts; sort++) {
                     int more = weight + thought.town.weight[sort];
                     boolean lighter = leastWeight == USED_UP || more < leastWeight;
-                    if (lighter && canLay(thought, place, sort)) {
+                    if (lighter && thought.wall.canTake(place, sort)) {
                         thought.wall.put(place, sort, NONE, thought.year);
                         lighten(thought, side, left - 1, more);
                         thought.wall.remove(place);
                     }
                 }
             }
-        }
-
-        private static boolean canLay(State thought, int place, int sort) {
-            return thought.wall.pile[sort] > 0
-                    && thought.wall.fits(place, thought.town.weight[sort]);
         }
 
         private static int lead(State thought, int side) {
