@@ -11,7 +11,6 @@ public final class TextTest {
         towns();
         soundTexts();
         faults();
-        bounds();
         Script.finish();
     }
 
@@ -186,75 +185,58 @@ public final class TextTest {
             """);
     }
 
-    private static void sound(String text, int lines) {
-        WallVotes x = new WallVotes();
-        Script.write(x, text);
-        Script.due("promise 4, " + text, "town()", x.town(), lines);
-        Script.due("promise 5, " + text, "fault(0)", x.fault(0), 0);
-        Script.due("promise 5, " + text, "fault(1)", x.fault(1), -1);
-    }
-
     private static void soundTexts() {
-        sound("", 0);
-        sound(" \n  ", 0);
-        sound(WALL, 1);
-        sound("\n wall\nwide3high4bond2;\n", 1);
-        sound("wall wide 0000000000003 high 004 bond 02 ; ", 1);
-        sound(WALL + "voter east low light carries 1 far 0;", 2);
-        sound(WALL + "voter west high heavy carries 1 far 0 from 5;", 2);
-        sound(WALL + "voter winner near 0 heavy carries 1 far 0 to 5;", 2);
-        sound(WALL + "voter loser near 2 heavy carries 1 far 0 from 5 to 5;", 2);
-        sound(WALL + "rule more;storm 0;mason 0;", 4);
-        sound(WALL + "mason 99;storm 100;rule heavier;sort weight 1 bears 0 many 0;", 5);
-        sound(WALL + "rule higher;", 2);
-        sound(WALL + "sort weight 1 bears 1 many 1;".repeat(5), 6);
-        sound(WALL + "voter east low light carries 1 far 0;".repeat(10), 11);
+        Texts.sound("", 0);
+        Texts.sound(" \n  ", 0);
+        Texts.sound(WALL, 1);
+        Texts.sound("\n wall\nwide3high4bond2;\n", 1);
+        Texts.sound("wall wide 0000000000003 high 004 bond 02 ; ", 1);
+        Texts.sound(WALL + "voter east low light carries 1 far 0;", 2);
+        Texts.sound(WALL + "voter west high heavy carries 1 far 0 from 5;", 2);
+        Texts.sound(WALL + "voter winner near 0 heavy carries 1 far 0 to 5;", 2);
+        Texts.sound(WALL + "voter loser near 2 heavy carries 1 far 0 from 5 to 5;", 2);
+        Texts.sound(WALL + "rule more;storm 0;mason 0;", 4);
+        Texts.sound(WALL + "mason 99;storm 100;rule heavier;sort weight 1 bears 0 many 0;", 5);
+        Texts.sound(WALL + "rule higher;", 2);
+        Texts.sound(WALL + "sort weight 1 bears 1 many 1;".repeat(5), 6);
+        Texts.sound(WALL + "voter east low light carries 1 far 0;".repeat(10), 11);
         // a TAPE that is full
-        sound(WALL + " ".repeat(1600 - WALL.length()), 1);
-        sound(" ".repeat(1600), 0);
-        sound(" ".repeat(1600 - WALL.length()) + WALL, 1);
-        sound("wall wide 3 high 4 bond " + "0".repeat(1574) + "2;", 1);
-    }
-
-    private static void fault(String text, int kind, int place) {
-        WallVotes x = new WallVotes();
-        Script.write(x, text);
-        Script.due("promise 4, " + text, "town()", x.town(), -4);
-        Script.due("promise 5, " + text, "fault(0)", x.fault(0), kind);
-        Script.due("promise 5, " + text, "fault(1)", x.fault(1), place);
-        Script.due("promise 4, " + text, "count(8)", x.count(8), text.length());
+        Texts.sound(WALL + " ".repeat(1600 - WALL.length()), 1);
+        Texts.sound(" ".repeat(1600), 0);
+        Texts.sound(" ".repeat(1600 - WALL.length()) + WALL, 1);
+        Texts.sound("wall wide 3 high 4 bond " + "0".repeat(1574) + "2;", 1);
     }
 
     /** A FAULT behind a WALL, at a place counted from its end. */
     private static void behind(String text, int kind, int place) {
-        fault(WALL + text, kind, WALL.length() + place);
+        Texts.fault(WALL + text, kind, WALL.length() + place);
     }
 
     private static void faults() {
-        fault(";", 1, 0);
-        fault(" ;", 1, 1);
-        fault("wide 3", 1, 0);
-        fault("sort weight 1 bears 1 many 1;", 1, 0);
-        fault("rule more;" + WALL, 1, 0);
-        fault("walls wide 3 high 4 bond 2;", 1, 0);
-        fault("wallwide 3 high 4 bond 2;", 1, 0);
-        fault("wallz wide 3 high 4 bond 2;", 1, 0);
-        fault("wall wide 3z high 4 bond 2;", 1, 11);
-        fault("walla wide 3 high 4 bond 2;", 1, 0);
-        fault("Wall wide 3 high 4 bond 2;", 1, 0);
-        fault("wall\twide 3 high 4 bond 2;", 1, 4);
-        fault("wall wide 3 high 4 bond 2", 1, 25);
-        fault("wall wide 3 high 4 bond 2 \n ", 1, 28);
-        fault("wall wide 3 high 4 bond", 1, 23);
-        fault("wall wide 3 high 4;", 1, 18);
-        fault("wall high 4 wide 3 bond 2;", 1, 5);
-        fault("wall wide three high 4 bond 2;", 1, 10);
-        fault("wall wide -3 high 4 bond 2;", 1, 10);
-        fault("wall wide 3 high 4 bond 2 2;", 1, 26);
-        fault("wall wide 3 high 4 bond 2;;", 1, 26);
-        fault("wall wide 3 high 4 bond 2\u0000;", 1, 25);
-        fault("wall wide 3 high 4 bond 2\u00e9;", 1, 25);
-        fault("wall wide 3 high 4 bond 2\r\n;", 1, 25);
+        Texts.fault(";", 1, 0);
+        Texts.fault(" ;", 1, 1);
+        Texts.fault("wide 3", 1, 0);
+        Texts.fault("sort weight 1 bears 1 many 1;", 1, 0);
+        Texts.fault("rule more;" + WALL, 1, 0);
+        Texts.fault("walls wide 3 high 4 bond 2;", 1, 0);
+        Texts.fault("wallwide 3 high 4 bond 2;", 1, 0);
+        Texts.fault("wallz wide 3 high 4 bond 2;", 1, 0);
+        Texts.fault("wall wide 3z high 4 bond 2;", 1, 11);
+        Texts.fault("walla wide 3 high 4 bond 2;", 1, 0);
+        Texts.fault("Wall wide 3 high 4 bond 2;", 1, 0);
+        Texts.fault("wall\twide 3 high 4 bond 2;", 1, 4);
+        Texts.fault("wall wide 3 high 4 bond 2", 1, 25);
+        Texts.fault("wall wide 3 high 4 bond 2 \n ", 1, 28);
+        Texts.fault("wall wide 3 high 4 bond", 1, 23);
+        Texts.fault("wall wide 3 high 4;", 1, 18);
+        Texts.fault("wall high 4 wide 3 bond 2;", 1, 5);
+        Texts.fault("wall wide three high 4 bond 2;", 1, 10);
+        Texts.fault("wall wide -3 high 4 bond 2;", 1, 10);
+        Texts.fault("wall wide 3 high 4 bond 2 2;", 1, 26);
+        Texts.fault("wall wide 3 high 4 bond 2;;", 1, 26);
+        Texts.fault("wall wide 3 high 4 bond 2\u0000;", 1, 25);
+        Texts.fault("wall wide 3 high 4 bond 2\u00e9;", 1, 25);
+        Texts.fault("wall wide 3 high 4 bond 2\r\n;", 1, 25);
         behind(" wall wide 3 high 4 bond 2;", 1, 1);
         behind(" 7", 1, 1);
         behind("masons 3;", 1, 0);
@@ -289,37 +271,9 @@ public final class TextTest {
         behind("sort weight 99999999999999999999 bears x", 2, 12);
         behind("sort weight 4294967297 bears 1 many 1;", 2, 12);
         // a TAPE that is full
-        fault("wall wide " + "3".repeat(1590), 2, 10);
-        fault("wall " + "w".repeat(1595), 1, 5);
-        fault("wall" + " ".repeat(1596), 1, 1600);
-        fault(";".repeat(1600), 1, 0);
-    }
-
-    private static void bounds() {
-        bound("wall wide @ high 4 bond 2;", 1, 8);
-        bound("wall wide 3 high @ bond 2;", 1, 12);
-        bound("wall wide 3 high 4 bond @;", 1, 12);
-        bound(WALL + "sort weight @ bears 1 many 1;", 1, 9);
-        bound(WALL + "sort weight 1 bears @ many 1;", 0, 99);
-        bound(WALL + "sort weight 1 bears 1 many @;", 0, 60);
-        bound(WALL + "voter east near @ light carries 1 far 0;", 0, 2);
-        bound("wall wide 8 high 1 bond 1;voter east near @ light carries 1 far 0;", 0, 7);
-        bound(WALL + "voter east low light carries @ far 0;", 1, 9);
-        bound(WALL + "voter east low light carries 1 far @;", 0, 99);
-        bound(WALL + "voter east low light carries 1 far 0 from @;", 0, 99);
-        bound(WALL + "voter east low light carries 1 far 0 to @;", 0, 99);
-        bound(WALL + "voter east low light carries 1 far 0 from 40 to @;", 40, 99);
-        bound(WALL + "storm @;", 0, 100);
-        bound(WALL + "mason @;", 0, 99);
-    }
-
-    private static void bound(String text, int least, int most) {
-        int lines = text.length() - text.replace(";", "").length();
-        sound(text.replace("@", "" + least), lines);
-        sound(text.replace("@", "" + most), lines);
-        fault(text.replace("@", "" + (most + 1)), 2, text.indexOf('@'));
-        if (least > 0) {
-            fault(text.replace("@", "" + (least - 1)), 2, text.indexOf('@'));
-        }
+        Texts.fault("wall wide " + "3".repeat(1590), 2, 10);
+        Texts.fault("wall " + "w".repeat(1595), 1, 5);
+        Texts.fault("wall" + " ".repeat(1596), 1, 1600);
+        Texts.fault(";".repeat(1600), 1, 0);
     }
 }
