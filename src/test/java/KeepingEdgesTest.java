@@ -53,6 +53,23 @@ public final class KeepingEdgesTest {
         one(3, 4294967296L + 10, 0);
         one(3, Long.MAX_VALUE, 0);
         one(3, Long.MIN_VALUE, 0);
+        Script.run("promise 47: COLUMN 7, SORT 4", """
+            town wall wide 8 high 1 bond 1; sort weight 1 bears 0 many 9; sort weight 1 bears 0 many 9; sort weight 1 bears 0 many 9; sort weight 1 bears 0 many 9; sort weight 1 bears 0 many 9; = 6
+            row 0 1 3 = 0
+            write 0 0 74 = 0
+            write 0 1 1074 = 0
+            write 0 2 1064 = 0
+            judge 0 = 3
+            then 0 = 1
+            # the same COLUMN once more
+            write 0 2 1070 = 0
+            judge 0 = 2
+            then 0 = 2
+            write 0 2 75 = 0
+            judge 0 = 2
+            write 0 2 84 = 0
+            judge 0 = 2
+            """);
         Script.run("promise 47: west's", TOWN + """
             row 0 3 1 = 0
             write 0 0 1000 = 0
@@ -254,27 +271,45 @@ public final class KeepingEdgesTest {
             back 2 = -6
             side 0 0 = 1
             """);
-        WallVotes x = Script.run("promise 51", TOWN + """
-            vote 0 = 1
-            lay 1 1 1 = 1
-            election 1 = 0
-            take 0 0 = 0
+        WallVotes x = Script.run("promise 51", TOWN.replace("storm 50;", "storm 50;"
+                + " voter west near 1 light carries 1 far 0; voter east near 1 light carries 1 far 0 to 3;")
+                .replace("= 5", "= 7") + """
+            vote 1 = 1
+            lay 1 2 1 = 1
+            election 2 = 1
+            take 1 1 = 0
+            take 1 0 = 0
+            # 2 to 1
+            election 5 = 0
+            lay 0 2 1 = 1
             rule 2 = 0
             keep 2 = 0
+            won 0 = 1
+            won 1 = 0
             """);
         String kept = Picture.ofTown(x);
         Script.go(x, "promise 51", """
-            run 7 30 = 30
-            run 7 30 = 30
-            run 7 30 = 30
+            take 0 2 = 1
+            # COLUMN 1 would be too high beside the last, COLUMN 0 is as near as that
+            vote 2 = 2
+            election 0 = 0
+            """);
+        x.run(7, 30);
+        x.run(8, 30);
+        Script.go(x, "promise 51", """
+            count 5 = 63
             rule 1 = 2
-            lay 1 0 1 = 1
             """);
         Script.due("promise 51", "another picture", Picture.ofTown(x).equals(kept) ? 1 : 0, 0);
         Script.due("promise 51", "back(2)", x.back(2), 0);
         Script.due("promise 51: these are as IMAGE k has them", "the picture",
                 Picture.ofTown(x).equals(kept) ? 1 : 0, 1);
-        Script.go(x, "promise 51", "town wall wide 8 high 12 bond 12; storm 1; = 2\nback 2 = 0");
+        Script.go(x, "promise 51", """
+            town wall wide 8 high 12 bond 12; storm 1; = 2
+            election 0 = 2
+            election 0 = 2
+            back 2 = 0
+            """);
         Script.due("promise 51: TOWN, too", "the picture", Picture.ofTown(x).equals(kept) ? 1 : 0, 1);
         Script.run("promise 51: TAPE, FAULT and SLOTS are no part of it", TOWN + """
             keep 0 = 0

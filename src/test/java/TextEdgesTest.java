@@ -73,12 +73,14 @@ public final class TextEdgesTest {
         noTown();
         tapeFull();
         tapeShortened();
+        shortenedInAToken();
         townInPlaceOfAnother();
         faultLeavesAll();
         faultOfTheLatest();
         numbersInBounds();
         boundsTakeEffect();
         toldWithout();
+        toldByAnother();
         firstLine();
         onceEach();
         sixthAndEleventh();
@@ -189,6 +191,31 @@ public final class TextEdgesTest {
             """);
     }
 
+    /** What was on the TAPE once still lies behind its end in some way, and must not be seen. */
+    private static void shortenedInAToken() {
+        Script.run("promise 3: its first n bytes alone", """
+            tape wall wide 1 high 1 bond 12;
+            end 25 = 25
+            town = -4
+            fault 0 = 1
+            fault 1 = 25
+            tape wall wide 1 high 1 bond 1;
+            end 10 = 10
+            town = -4
+            fault 0 = 1
+            fault 1 = 10
+            tape wall wide 1 high 1 bond 1;
+            end 3 = 3
+            town = -4
+            fault 0 = 1
+            fault 1 = 0
+            tape wall wide 1 high 1 bond 1;
+            end 25 = 25
+            town = -4
+            fault 1 = 25
+            """);
+    }
+
     private static void townInPlaceOfAnother() {
         Script.run("promise 4: the WALL has nothing, YEAR 0, nobody has WON", LIVELY + """
             vote 0 = 1
@@ -205,6 +232,7 @@ public final class TextEdgesTest {
             count 8 = 0
             side 0 0 = 0
             side 1 0 = 0
+            side 1 1 = 0
             side 1 2 = 0
             pile 0 = 9
             lost = 0
@@ -373,7 +401,7 @@ public final class TextEdgesTest {
             bribe 1 = 0
             """);
         for (int year = 0; year < 98; year++) {
-            x.election(0);
+            Script.due("the YEARS ahead", "election(0)", x.election(0), 2);
         }
         Script.go(x, "from, to: (0, 99 without)", """
             count 5 = 98
@@ -383,6 +411,26 @@ public final class TextEdgesTest {
             election 0 = 2
             count 5 = 100
             count 11 = 0
+            """);
+    }
+
+    private static void toldByAnother() {
+        Script.run("rule, storm, mason: (more, 0, 0 without), whatever the TOWN ahead of it told", """
+            town wall wide 1 high 1 bond 1; sort weight 1 bears 0 many 2; rule higher; storm 9; mason 9; voter west low light carries 1 far 0 from 3 to 4; = 6
+            bribe 0 = 9
+            town wall wide 1 high 1 bond 1; sort weight 1 bears 0 many 2; voter west low light carries 1 far 0; = 3
+            count 9 = 0
+            count 10 = 0
+            count 11 = 1
+            bribe 0 = 0
+            turn 0 0 = 1
+            # nor does a TOWN with a FAULT tell anything to the next
+            town wall wide 1 high 1 bond 1; sort weight 1 bears 0 many 2; storm 9; mason 9; rule higher; x = -4
+            town wall wide 1 high 1 bond 1; sort weight 1 bears 0 many 2; = 2
+            count 9 = 0
+            count 10 = 0
+            bribe 0 = 0
+            town wall wide 1 high 1 bond 1; storm 1; mason 1; rule more; = 4
             """);
     }
 
@@ -475,6 +523,15 @@ public final class TextEdgesTest {
                 Texts.fault(text, 1, 25);
             }
         }
+        // words (a .. z): a letter more makes another word, any other byte ends it
+        for (int b = 0; b < 256; b++) {
+            String text = "wall" + (char) b + "wide 1 high 1 bond 1;";
+            if (b == 32 || b == 10) {
+                Texts.sound(text, 1);
+            } else {
+                Texts.fault(text, 1, b >= 'a' && b <= 'z' ? 0 : 4);
+            }
+        }
         // the longest
         Texts.sound("wall wide1high1bond1;", 1);
         Texts.fault("wallwide 1 high 1 bond 1;", 1, 0);
@@ -521,6 +578,12 @@ public final class TextEdgesTest {
         Texts.fault(WALL + SORT.repeat(4) + "sort weight 1 bears 1 many 1 sort", 1, 26 + 4 * 29 + 29);
         Texts.fault(WALL + VOTER.repeat(9) + "voter east low light carries 1 far 0 voter", 1,
                 26 + 9 * 37 + 37);
+        // a word that is one, but not there
+        Texts.fault(WALL + "rule low;", 1, 31);
+        Texts.fault(WALL + "rule east;", 1, 31);
+        Texts.fault(WALL + "voter low low light carries 1 far 0;", 1, 32);
+        Texts.fault(WALL + "voter east east light carries 1 far 0;", 1, 37);
+        Texts.fault(WALL + "voter east low low carries 1 far 0;", 1, 41);
         // a number that can't stand there, and would be out of all bounds
         Texts.fault("wall 999 wide 1 high 1 bond 1;", 1, 5);
         Texts.fault(WALL + "999", 1, 26);

@@ -58,6 +58,34 @@ public final class TurningEdgesTest {
             lay 1 0 0 = 4
             pivot 0 = -1
             """);
+        Script.run("promise 27: FEWEST, not the first set", WIDE.replace("60;", "60; sort weight 2 bears 99 many 1;")
+                + EAST + EAST + EAST.replace("light carries 1", "heavy carries 2") + " rule heavier; = 7\n" + """
+            lay 1 0 0 = 1
+            lay 1 0 0 = 2
+            # 4 to 2: 0 and 1 leave 2 to 2, and so does 2 alone
+            pivot 0 = 1
+            pivot 1 = 4
+            """);
+        Script.run("promises 27, 36: if neither leads, who WON last WINS", WIDE + EAST + EAST + """
+             = 4
+            lay 0 0 0 = 1
+            election 0 = 0
+            take 0 0 = 0
+            lay 1 0 0 = 1
+            # 2 to 1; 1 to 1 is east's still; 0 to 1 is west's
+            result 1 = 0
+            pivot 0 = 2
+            pivot 1 = 3
+            # none of the others: 0 to 1, or 1 to 1; the other one: 1 to 1, or 2 to 1
+            power 0 = 1
+            power 1 = 1
+            election 0 = 1
+            # west WON last: 1 to 1 is west's
+            result 1 = 1
+            pivot 0 = 1
+            pivot 1 = 1
+            power 0 = 1
+            """);
         Script.run("promise 27: the least set of several", WIDE + WEST + EAST + WEST + EAST + EAST + """
              = 7
             # 3 to 2: any one of 1, 3, 4
@@ -239,6 +267,95 @@ public final class TurningEdgesTest {
             # nothing may be laid on a 0
             turn 0 0 = -3
             """);
+        Script.run("promise 31: the last of five SORTS, the last of eight COLUMNS", """
+            town wall wide 8 high 1 bond 1; sort weight 1 bears 0 many 7; sort weight 1 bears 0 many 7; sort weight 1 bears 0 many 0; sort weight 1 bears 0 many 0; sort weight 1 bears 0 many 2; mason 1; = 7
+            lay 0 0 0 = 1
+            lay 0 1 0 = 1
+            lay 0 2 0 = 1
+            lay 0 3 0 = 1
+            lay 0 4 0 = 1
+            lay 0 5 0 = 1
+            lay 0 6 0 = 1
+            lay 1 0 1 = 1
+            lay 1 1 1 = 1
+            lay 1 2 1 = 1
+            lay 1 3 1 = 1
+            lay 1 4 1 = 1
+            lay 1 5 1 = 1
+            lay 1 6 1 = 1
+            # 7 to 7, and the last COLUMN of each is free
+            turn 0 0 = 1
+            turn 0 1 = 74
+            turn 1 1 = 74
+            bribe 0 = 1
+            bribe 1 = 1
+            lay 0 7 4 = 1
+            turn 1 0 = -3
+            bribe 1 = -3
+            take 0 7 = 4
+            lay 1 7 4 = 1
+            # 7 to 8, and one COLUMN
+            turn 0 0 = -3
+            bribe 0 = -3
+            """);
+        Script.run("promises 31, 32: at most three STONES", """
+            town wall wide 8 high 12 bond 12; sort weight 1 bears 99 many 60; sort weight 9 bears 99 many 3; rule heavier; mason 1; = 5
+            lay 1 0 1 = 1
+            lay 1 0 1 = 2
+            # 18: one of 9 is there, and with two of 1 that is 11
+            turn 0 0 = -3
+            bribe 0 = -3
+            take 1 0 = 1
+            # 9: 9 and 1
+            turn 0 0 = 2
+            turn 0 1 = 0
+            bribe 0 = 10
+            lay 1 0 0 = 2
+            lay 1 0 0 = 3
+            # 11: 9 and 9; 9, 1 and 1 are alike with it
+            turn 0 0 = 2
+            turn 0 1 = 1
+            bribe 0 = 18
+            lay 1 7 1 = 1
+            # 20: one of 9 is there
+            turn 0 0 = -3
+            bribe 0 = -3
+            take 1 0 = 0
+            take 1 0 = 0
+            take 1 0 = 1
+            # 9 with two of 9 on the PILE; 8 more on that: 17
+            lay 1 0 0 = 1
+            lay 1 1 0 = 1
+            lay 1 2 0 = 1
+            lay 1 3 0 = 1
+            lay 1 4 0 = 1
+            lay 1 5 0 = 1
+            lay 1 6 0 = 1
+            lay 1 6 0 = 2
+            turn 0 0 = 2
+            turn 0 1 = 1
+            lay 1 6 0 = 3
+            # 18: 9, 9 and 1
+            turn 0 0 = 3
+            turn 0 1 = 0
+            bribe 0 = 19
+            lay 1 6 0 = 4
+            # 19: alike is not enough
+            turn 0 0 = -3
+            bribe 0 = -3
+            """);
+        Script.run("promise 31: three of the heaviest, just enough", """
+            town wall wide 8 high 12 bond 12; sort weight 1 bears 99 many 60; sort weight 8 bears 99 many 60; sort weight 9 bears 99 many 60; rule heavier; = 5
+            lay 1 0 2 = 1
+            lay 1 0 2 = 2
+            lay 1 0 1 = 3
+            turn 0 0 = 3
+            turn 0 1 = 2
+            bribe 0 = 0
+            lay 1 0 0 = 4
+            turn 0 0 = -3
+            bribe 0 = -3
+            """);
         Script.run("promise 31: more than one can't be", "town wall wide 1 high 1 bond 1;"
                 + " sort weight 1 bears 9 many 9; = 2\n" + """
             lay 1 0 0 = 1
@@ -309,6 +426,69 @@ public final class TurningEdgesTest {
             tear 2 = -2
             tear 2147483647 = -2
             tear -2147483648 = -2
+            """);
+        Script.run("promise 33: by higher each COLUMN that is as high as its own highest, or higher", """
+            town wall wide 4 high 3 bond 3; sort weight 1 bears 99 many 20; rule higher; = 3
+            lay 0 0 0 = 1
+            lay 0 0 0 = 2
+            lay 1 0 0 = 1
+            lay 1 0 0 = 2
+            lay 1 0 0 = 3
+            lay 1 1 0 = 1
+            lay 1 2 0 = 1
+            lay 1 2 0 = 2
+            # 3 1 2 0 to 1 1 1 0
+            tear 0 = 3
+            tear 1 = 0
+            take 0 0 = 0
+            # to nothing
+            tear 0 = 6
+            take 1 0 = 0
+            take 1 0 = 0
+            take 1 2 = 0
+            # 1 against 1 1 1 0
+            tear 0 = 3
+            tear 1 = 1
+            """);
+        WallVotes x = Script.run("promise 33: COLUMNS 0 .. 7 of a SIDE, and no more", """
+            town wall wide 8 high 12 bond 12; sort weight 9 bears 99 many 60; sort weight 1 bears 99 many 60; = 3
+            """);
+        for (int column = 0; column < 8; column++) {
+            Script.due("promise 33", "lay", x.lay(0, column, 1), 1);
+            Script.due("promise 33", "lay", x.lay(1, column, 0), 1);
+        }
+        Script.go(x, "promise 33: COLUMNS 0 .. 7 of a SIDE, and no more", """
+            tear 0 = 1
+            rule 1 = 0
+            # 8 to 72: all; 72 to 8 leads
+            tear 0 = 8
+            tear 1 = 0
+            rule 2 = 1
+            tear 0 = 8
+            tear 1 = 8
+            rule 1 = 2
+            # 8 to 64: seven of 9 leave 1
+            take 1 7 = 0
+            lay 1 7 1 = 1
+            tear 0 = 7
+            lay 0 0 0 = 2
+            lay 0 1 0 = 2
+            lay 0 2 0 = 2
+            # 35 to 64: four of 9 leave 28, three 37
+            tear 0 = 4
+            """);
+        Script.run("promise 33: what lies there now", """
+            town wall wide 3 high 3 bond 3; sort weight 1 bears 99 many 9; sort weight 9 bears 99 many 9; rule heavier; = 4
+            lay 0 0 0 = 1
+            lay 0 1 0 = 1
+            lay 1 0 1 = 1
+            tear 0 = 1
+            take 1 0 = 1
+            lay 1 0 0 = 1
+            lay 1 1 0 = 1
+            lay 1 2 0 = 1
+            # 2 to 3 of 1 each
+            tear 0 = 2
             """);
         Script.run("promise 33: from the top", """
             town wall wide 2 high 3 bond 3; sort weight 1 bears 99 many 9; sort weight 9 bears 99 many 9; rule heavier; = 4

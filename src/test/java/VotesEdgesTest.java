@@ -28,6 +28,7 @@ public final class VotesEdgesTest {
         spans();
         handsGone();
         oldestVotes();
+        tenVotersOnEight();
         Script.finish();
     }
 
@@ -146,6 +147,12 @@ public final class VotesEdgesTest {
             vote 1 = -1
             take 0 0 = 2
             would 0 1 = 2
+            """);
+        Script.run("III: the heaviest, the lightest, by 1", """
+            town wall wide 1 high 12 bond 12; sort weight 3 bears 99 many 1; sort weight 2 bears 99 many 1; sort weight 4 bears 99 many 1; voter east low light carries 9 far 0; voter east low heavy carries 9 far 0; voter east low heavy carries 3 far 0; = 7
+            would 0 1 = 1
+            would 1 1 = 2
+            would 2 1 = 0
             """);
         Script.run("III: the first of several", """
             town wall wide 1 high 12 bond 12; sort weight 2 bears 99 many 1; sort weight 2 bears 99 many 1; sort weight 2 bears 99 many 1; voter east low light carries 9 far 0; voter east low heavy carries 9 far 0; = 6
@@ -477,6 +484,23 @@ public final class VotesEdgesTest {
             votes 1 0 = 1
             still 1 0 = 0
             """);
+        Script.run("promises 22 to 24, 37: a STONE of that YEAR by nobody is no vote", THREE + """
+            lay 0 0 0 = 1
+            lay 0 0 0 = 2
+            lay 1 0 0 = 1
+            election 4 = 2
+            votes 0 0 = 0
+            votes 0 1 = 1
+            still 0 0 = 0
+            still 0 1 = 1
+            read 0 = 1
+            span 0 0 0 = 0
+            span 0 0 1 = 0
+            oldest 0 = -1
+            hands 0 = 0
+            take 0 0 = 0
+            lost = 0
+            """);
         Script.run("promise 22: of these, of one SIDE and YEAR", THREE + """
             election 1 = 0
             election 6 = 0
@@ -574,6 +598,44 @@ public final class VotesEdgesTest {
             ghosts -1 = -2
             ghosts 2147483647 = -2
             ghosts -2147483648 = -2
+            """);
+    }
+
+    private static void tenVotersOnEight() {
+        WallVotes x = Script.run("ten voters, COLUMNS 0 .. 7 of a SIDE and no more", """
+            town wall wide 8 high 12 bond 12; sort weight 1 bears 99 many 60;"""
+                + " voter east near 7 light carries 1 far 0 to 0;".repeat(5)
+                + " voter west near 0 light carries 1 far 0 to 0;".repeat(4)
+                + " voter winner near 7 light carries 1 far 0; = 12\n");
+        Script.go(x, "ten voters, COLUMNS 0 .. 7 of a SIDE and no more", """
+            vote 5 = 1
+            vote 6 = 2
+            # west's first COLUMN is none of east's
+            oldest 0 = -1
+            hands 5 = 1
+            hands 6 = 1
+            ghosts 0 = 0
+            election 512 = 1
+            votes 0 0 = 1
+            votes 0 1 = 2
+            still 0 0 = 1
+            still 0 1 = 2
+            read 0 = 1
+            span 0 0 1 = 1
+            oldest 0 = 0
+            ghosts 0 = 0
+            ghosts 1 = 2
+            lost = 0
+            # west WON last, so voter 9 has a HAND on each SIDE
+            election 1023 = 1
+            votes 1 1 = 1
+            votes 1 0 = 0
+            hands 9 = 2
+            count 11 = 512
+            take 0 7 = 0
+            lost = 1
+            oldest 0 = -1
+            oldest 1 = 0
             """);
     }
 

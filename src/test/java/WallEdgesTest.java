@@ -27,6 +27,8 @@ public final class WallEdgesTest {
         leading();
         courses();
         rises();
+        risesBesideOpenJoints();
+        allEightColumns();
         rules();
         Script.finish();
     }
@@ -231,6 +233,19 @@ public final class WallEdgesTest {
     }
 
     private static void counts() {
+        Script.run("II: COUNT by each rule", TOWN + """
+            lay 0 0 0 = 1
+            lay 0 0 1 = 2
+            lay 0 2 0 = 1
+            side 0 0 = 3
+            side 0 1 = 5
+            side 0 2 = 2
+            side 0 3 = 3
+            rule 1 = 0
+            side 0 3 = 5
+            rule 2 = 1
+            side 0 3 = 2
+            """);
         Script.run("II: COUNT of a SIDE that has nothing, by each rule", TOWN + """
             side 0 3 = 0
             rule 1 = 0
@@ -579,6 +594,14 @@ public final class WallEdgesTest {
             course 0 12 = 1
             course 1 12 = 0
             """);
+        Script.run("promise 39: n STONES or more, the first and the last COLUMN", TOWN + """
+            lay 0 0 0 = 1
+            lay 0 2 0 = 1
+            lay 0 2 0 = 2
+            course 0 1 = 2
+            course 0 2 = 1
+            course 0 3 = 0
+            """);
         Script.run("promise 39: n above high", TOWN + """
             course 0 4 = 0
             course 0 5 = 0
@@ -647,6 +670,67 @@ public final class WallEdgesTest {
             """);
     }
 
+    private static void risesBesideOpenJoints() {
+        Script.run("promise 40: it has n already, whatever is beside it", """
+            town wall wide 4 high 12 bond 1; sort weight 1 bears 99 many 60; = 2
+            lay 0 0 0 = 1
+            lay 0 1 0 = 1
+            lay 0 2 0 = 1
+            lay 0 0 0 = 2
+            lay 0 1 0 = 2
+            lay 0 0 0 = 3
+            take 0 1 = 0
+            take 0 2 = 0
+            # heights 3 1 0 0
+            rise 0 0 3 = 0
+            rise 0 0 2 = 0
+            rise 0 0 0 = 0
+            # 1 of its own, and 2 1 beside it, and one behind these
+            rise 0 0 4 = 6
+            # just high enough beside it: nothing behind it
+            rise 0 1 1 = 0
+            rise 0 2 2 = 3
+            take 0 0 = 0
+            take 0 0 = 0
+            take 0 0 = 0
+            # heights 0 1 0 0: for 2 the one beside it is just high enough, though 0 is beside that
+            rise 0 2 2 = 3
+            lay 0 0 0 = 1
+            lay 0 2 0 = 1
+            lay 0 1 0 = 2
+            take 0 2 = 0
+            take 0 0 = 0
+            # heights 0 2 0 0: for 3 just high enough again, whatever is behind it
+            rise 0 0 3 = 3
+            rise 0 2 3 = 5
+            """);
+    }
+
+    /** East's last COLUMN and west's first may lie side by side in the class, but not in the WALL. */
+    private static void allEightColumns() {
+        Script.run("II: COLUMNS 0 .. 7 of a SIDE, and no more", """
+            town wall wide 8 high 12 bond 12; sort weight 2 bears 9 many 9; sort weight 1 bears 0 many 9; = 3
+            lay 1 0 1 = 1
+            slack 0 = -1
+            course 0 1 = 0
+            side 0 2 = 0
+            fill 0 1 = 8
+            lay 0 7 0 = 1
+            slack 0 = 9
+            course 0 1 = 1
+            course 1 1 = 1
+            lay 1 7 0 = 1
+            slack 1 = 0
+            take 1 0 = 1
+            slack 1 = 9
+            course 1 1 = 1
+            side 0 4 = 0
+            side 1 2 = 1
+            spare 0 8 = -2
+            rise 0 7 12 = 11
+            """);
+    }
+
     private static void rules() {
         Script.run("promise 45: which it was; -2", TOWN + """
             rule 3 = -2
@@ -680,6 +764,11 @@ public final class WallEdgesTest {
             rule 2 = 0
             suits 0 = 1
             leads = 2
+            take 1 1 = 1
+            lay 1 0 1 = 2
+            # 2 to 2, 4 to 3, 1 to 2
+            suits 1 = 2
+            suits 0 = 1
             """);
     }
 }

@@ -25,6 +25,8 @@ public final class WeatherEdgesTest {
         yearsGoneThrough();
         hundredYears();
         goingsOn();
+        stonesOfBothSides();
+        galesOfAnotherTown();
         seedsBeyond();
         Script.finish();
     }
@@ -211,10 +213,9 @@ public final class WeatherEdgesTest {
     private static void draws() {
         Script.due("V: the draws from 0", "the fifth", drawsFrom(0, 5)[4], 98);
         int[] seeds = {0, 1, 2, 65535, 65536, 12345, 1073741824, 1999999999, 2000000000};
-        int[] odds = {0, 1, 5, 50, 99, 100};
         for (int seed : seeds) {
-            for (int chance : odds) {
-                stormOverSixteen(seed, chance);
+            for (int odds = 0; odds <= 100; odds++) {
+                stormOverSixteen(seed, odds);
             }
         }
     }
@@ -407,6 +408,45 @@ public final class WeatherEdgesTest {
             runs 0 4 1 2 = 1
             runs 3 1 1 0 = 1
             runs 2 1 1 0 = 0
+            """);
+    }
+
+    private static void stonesOfBothSides() {
+        Script.run("promise 44: STONES in the WALL then, of both SIDES", TWO.replace("storm 30;",
+                "voter east low light carries 1 far 0; voter west low light carries 1 far 0;")
+                .replace("= 4", "= 5") + """
+            lay 1 0 0 = 1
+            runs 0 1 1 2 = 3
+            runs 0 20 2 2 = 100
+            runs 0 1 30 2 = 12
+            """);
+    }
+
+    /** All that the PARTS come from is another one. */
+    private static void galesOfAnotherTown() {
+        Script.run("IV: of another TOWN", TWO + """
+            lay 0 0 0 = 1
+            gale 0 = 700000000000
+            falls 1 = 300000000000
+            keep 0 = 0
+            """ + TWO.replace("30;", "60; rule higher;").replace("= 4", "= 5") + """
+            lay 0 0 0 = 1
+            lay 0 0 0 = 2
+            lay 0 1 0 = 1
+            lay 0 1 0 = 2
+            lay 1 0 0 = 1
+            lay 1 0 0 = 2
+            # alike if both of east fall and west's, or one stands and west's: 216 and 640 times 400
+            falls 3 = 216000000000
+            gale 2 = 472000000000
+            # east's two fall, west's does not
+            gale 1 = 144000000000
+            back 0 = 0
+            gale 0 = 700000000000
+            falls 1 = 300000000000
+            falls 3 = 0
+            mean 0 = 700
+            mean 1 = 0
             """);
     }
 
