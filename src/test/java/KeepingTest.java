@@ -321,6 +321,9 @@ public final class KeepingTest {
             paste 0 0 1 2147483647 1 = -7
             paste 0 1 1 1 2147483647 = -7
             paste 0 4 1 2 0 = 0
+            # none at all, but from a place that is not there (a choice, see NOTES.md)
+            paste 0 5 1 2 0 = -7
+            paste 0 4 1 3 0 = -7
             # all can be
             write 0 0 10 = 0
             write 0 1 1010 = 0

@@ -344,6 +344,14 @@ public final class TurningEdgesTest {
             turn 0 0 = -3
             bribe 0 = -3
             """);
+        Script.run("promises 31, 32: the first SORT is the heaviest", """
+            town wall wide 8 high 12 bond 12; sort weight 9 bears 99 many 60; sort weight 1 bears 99 many 60; rule heavier; mason 1; = 5
+            lay 1 0 0 = 1
+            lay 1 0 0 = 2
+            turn 0 0 = 3
+            turn 0 1 = 0
+            bribe 0 = 19
+            """);
         Script.run("promise 31: three of the heaviest, just enough", """
             town wall wide 8 high 12 bond 12; sort weight 1 bears 99 many 60; sort weight 8 bears 99 many 60; sort weight 9 bears 99 many 60; rule heavier; = 5
             lay 1 0 2 = 1
